@@ -16,7 +16,7 @@ public final class TableHistories {
     private static final int CUT = 1;
     private static final int KEPT = 2;
     private static final long[] LEAST_OF_KIND = {-128L, -32768L, -2147483648L, -9223372036854775808L};
-    // a place that is none; the answers BAD .. NONE are never used as places
+    // no place in a table; unlike NONE it is never an answer
     private static final int NOWHERE = -1;
     // above the 122 that one merge, or one pair of versions, can have at most
     private static final int MOST_FINDINGS = 160;
