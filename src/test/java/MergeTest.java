@@ -35,6 +35,9 @@ public final class MergeTest {
         othersShutLast();
         crissCross();
         crissCrossRowGone();
+        wideColumns();
+        wideColumnClash();
+        wideRows();
         DUE.end();
     }
 
@@ -561,5 +564,75 @@ public final class MergeTest {
         due("the column is new in the one", x.version(v, 3), 3);
         due("the row went", x.version(v, 4), 3);
         due("BAD", x.has(v + 1, 20, 2), BAD);
+    }
+
+    /** Columns 0 to 3 come by branch 2, 4 to 8 are those of the base, of which branch 0 dropped 4 to 7. */
+    private static TableHistories wide() {
+        TableHistories x = new TableHistories();
+        for (int i = 0; i < 4; i++) {
+            x.column(2, 0, 3);
+        }
+        for (int i = 0; i < 5; i++) {
+            x.column(0, 0, 2);
+        }
+        x.row(0, 0, 10);
+        due("wide", x.cell(0, 0, 10, 8, 300), 11);
+        x.branch(1, 11);
+        for (int column = 4; column < 8; column++) {
+            x.drop(0, 0, column);
+        }
+        due("wide", x.merge(0, 2, 0), 16);
+        return x;
+    }
+
+    private static void wideColumns() {
+        TableHistories x = wide();
+        x.retype(1, 0, 8, 0, 1);
+        int v = merged(x, 0, 1);
+        due("columns", x.version(v, 3), 5);
+        due("number", x.columnOf(v, 4, 0), 8);
+        due("kind", x.columnOf(v, 4, 1), 0);
+        due("rule", x.columnOf(v, 4, 2), 1);
+        cellIs(x, v, 10, 8, 44, 11);
+        emptyIs(x, v, 10, 0, 16);
+        x = wide();
+        x.retype(1, 0, 8, 0, 1);
+        x.cell(1, 0, 10, 8, 7);
+        x.retype(0, 0, 8, 1, 2);
+        x.cell(0, 0, 10, 8, 8);
+        clashes(x, 0, 1, clash(2, NONE, 8));
+    }
+
+    private static void wideColumnClash() {
+        TableHistories x = wide();
+        x.drop(0, 0, 8);
+        x.column(0, 0, 0);
+        x.cell(1, 0, 10, 7, 1);
+        x.cell(1, 0, 10, 8, 1);
+        clashes(x, 0, 1, clash(1, NONE, 7), clash(1, NONE, 8));
+        clashes(x, 1, 0, clash(1, NONE, 7), clash(1, NONE, 8));
+    }
+
+    private static void wideRows() {
+        TableHistories x = new TableHistories();
+        for (int key = 0; key < 16; key++) {
+            x.row(2, 0, key);
+        }
+        for (int key = 20; key < 36; key++) {
+            x.row(0, 0, key);
+        }
+        x.branch(1, x.at(0));
+        for (int key = 20; key < 36; key++) {
+            x.gone(0, 0, key);
+        }
+        merged(x, 0, 2);
+        x.move(1, 0, 35, 99);
+        x.move(1, 0, 20, 98);
+        clashes(x, 0, 1, clash(4, 16, NONE), clash(4, 31, NONE));
+        x.move(1, 0, 99, 35);
+        x.move(1, 0, 98, 20);
+        int v = merged(x, 0, 1);
+        due("rows", x.version(v, 4), 16);
+        due("the last row", x.rowOf(v, 15, 0), 15);
     }
 }

@@ -30,6 +30,7 @@ public final class PromisesTest {
         readingCells();
         differences();
         differenceOrder();
+        manyDifferences();
         count();
         fullOfVersions();
         DUE.end();
@@ -584,6 +585,32 @@ public final class PromisesTest {
         for (int i = 0; i < back.length; i++) {
             tells(x, to, from, i, back[i][0], back[i][1], back[i][2]);
         }
+    }
+
+    private static void manyDifferences() {
+        TableHistories x = new TableHistories();
+        for (int branch = 0; branch < 2; branch++) {
+            for (int i = 0; i < 5; i++) {
+                x.column(branch, 0, 0);
+            }
+            for (int key = 0; key < 16; key++) {
+                x.row(branch, 0, key);
+            }
+        }
+        due("21: nothing in common", x.differences(x.at(0), x.at(1)), 42);
+        tells(x, x.at(0), x.at(1), 4, 1, NONE, 4);
+        tells(x, x.at(0), x.at(1), 9, 2, NONE, 9);
+        tells(x, x.at(0), x.at(1), 25, 4, 15, NONE);
+        tells(x, x.at(0), x.at(1), 41, 5, 31, NONE);
+        int before = x.at(0);
+        for (int key = 0; key < 16; key++) {
+            for (int column = 0; column < 5; column++) {
+                x.cell(0, 0, key, column, 1);
+            }
+        }
+        due("21: all cells", x.differences(before, x.at(0)), 80);
+        tells(x, before, x.at(0), 79, 7, 15, 4);
+        tells(x, before, x.at(0), 7, 7, 1, 2);
     }
 
     private static void count() {
