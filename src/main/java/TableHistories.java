@@ -379,19 +379,19 @@ public final class TableHistories {
 
     // ---- cells of a call
 
-    /** BAD, NO, FULL, or 0. FULL stands ahead of what cell() alone looks at, its number. */
+    /** BAD, NO, or 0. FULL is left to writeCell: it stands behind the BAD that cell() tells of its number. */
     private int askCellChange(int branch, int who, int key, int column) {
         if (!isBranch(branch) || !isWho(who) || !isKey(key) || !isColumn(column)) {
             return BAD;
         }
         Table now = tableOn(branch);
-        if (now.slotAt(now.placeOfKey(key), now.columns.placeOf(column)) == NOWHERE) {
-            return NO;
-        }
-        return isFull() ? FULL : 0;
+        return now.slotAt(now.placeOfKey(key), now.columns.placeOf(column)) == NOWHERE ? NO : 0;
     }
 
     private int writeCell(int branch, int who, int key, int column, boolean filled, long number) {
+        if (isFull()) {
+            return FULL;
+        }
         Table next = tableOn(branch).copyWithout(NOWHERE, NOWHERE);
         int slot = next.slotAt(next.placeOfKey(key), next.columns.placeOf(column));
         next.putCell(slot, filled, number, versionsMade);

@@ -195,11 +195,11 @@ public final class ModelTest {
             if (r < 0 || !now.columns.containsKey(column)) {
                 return NO;
             }
-            if (full()) {
-                return FULL;
-            }
             if (v != null && !fits(v, now.columns.get(column).kind)) {
                 return BAD;
+            }
+            if (full()) {
+                return FULL;
             }
             Sheet next = now.copy();
             next.put(r, column, new Box(v, versions.size()));

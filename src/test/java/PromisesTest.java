@@ -653,7 +653,10 @@ public final class PromisesTest {
         due("3: NO ahead", x.gone(0, 0, 6), NO);
         due("4: NO ahead", x.cell(0, 0, 6, 0, 1), NO);
         due("4: BAD ahead", x.cell(0, 0, 5, 1, 1), BAD);
-        due("4: ahead of what is told besides", x.cell(0, 0, 5, 0, 99999), FULL);
+        due("4: BAD of the number ahead", x.cell(0, 0, 5, 0, 32768), BAD);
+        due("4: BAD of the number ahead", x.cell(0, 0, 5, 0, -32769), BAD);
+        due("4: the greatest number", x.cell(0, 0, 5, 0, 32767), FULL);
+        due("4: NO ahead of the number", x.cell(0, 0, 6, 0, 32768), NO);
         due("5: NO ahead", x.empty(0, 0, 6, 0), NO);
         due("6: BAD ahead", x.column(0, 0, 4), BAD);
         due("7: NO ahead", x.drop(3, 0, 0), NO);
