@@ -112,7 +112,7 @@ final class Calls {
         is(NONE, "rowOf", v, numbers.length, 0);
     }
 
-    /** Makes VERSIONS on a BRANCH, by a ROW with a KEY that is free there, which comes and goes, until there are so many. */
+    /** Makes VERSIONS on a BRANCH until there are so many: a ROW comes, with a KEY that is free there, and goes. */
     void fill(int branch, int key, int most) {
         boolean comes = true;
         for (int made = versions(); made < most; made++) {

@@ -9,9 +9,13 @@ public final class EdgesOfClashesTest {
         columnGoneAndCell();
         columnGoneAndNothing();
         columnGoneAndRowsElsewhere();
+        columnGoneWithoutRows();
+        columnsOfTen();
         kindInBoth();
         kindInBothAlike();
+        kindAtOtherPlaces();
         kindOfWhatIsNew();
+        kindClashOfEarlierMerge();
         ruleOfRowsInBoth();
         ruleOfNewRows();
         ruleWithoutClash();
@@ -38,6 +42,7 @@ public final class EdgesOfClashesTest {
         lastOnesOnlyAlone();
         orderOfSorts();
         orderByRowThenColumn();
+        numbersNotPlaces();
         mostClashes();
         nothingIsMerged();
         DUE.end();
@@ -98,11 +103,49 @@ public final class EdgesOfClashesTest {
     }
 
     private static void columnGoneAndRowsElsewhere() {
-        none("1: not a CELL of a ROW that is NEW", steps(step("drop", 0)), steps(step("row", 60), step("cell", 60, 0, 7)));
+        none("1: not a CELL of a ROW that is NEW", steps(step("drop", 0)),
+            steps(step("row", 60), step("cell", 60, 0, 7)));
         none("1: not a CELL of a ROW of the BASE that is not there", steps(step("drop", 0)),
             steps(step("cell", 10, 0, 7), step("gone", 10)));
         clashes("1: a CELL of a ROW of the BASE that went in the one", steps(step("drop", 0), step("gone", 10)),
             steps(step("cell", 10, 0, 7)), clash(1, NONE, 0));
+    }
+
+    private static void columnGoneWithoutRows() {
+        Calls x = new Calls(DUE, "1 and 2 in TABLES without ROWS");
+        for (int i = 0; i < 3; i++) {
+            x.makes("column", 0, 0, 1);
+        }
+        x.is(0, "branch", 1, 3);
+        x.makes("drop", 0, 0, 2);
+        x.makes("retype", 1, 0, 2, 0, 0);
+        x.makes("retype", 0, 0, 1, 2, 0);
+        x.makes("retype", 1, 0, 1, 3, 0);
+        x.clashes(0, 1, clash(1, NONE, 2), clash(2, NONE, 1));
+        x.clashes(1, 0, clash(1, NONE, 2), clash(2, NONE, 1));
+    }
+
+    /** BRANCH 0 has the COLUMNS 0 to 4, which were made first; BRANCH 1 has 5 to 9, those of the BASE. */
+    private static void columnsOfTen() {
+        Calls x = new Calls(DUE, "1: of 10 COLUMNS, 5 in each");
+        for (int column = 0; column < 5; column++) {
+            x.makes("column", 2, 0, 3);
+        }
+        for (int column = 0; column < 5; column++) {
+            x.makes("column", 0, 0, 2);
+        }
+        x.makes("row", 0, 0, 10);
+        x.is(0, "branch", 1, 11);
+        for (int column = 5; column < 10; column++) {
+            x.makes("drop", 0, 0, column);
+        }
+        x.columnsAre(x.makes("merge", 0, 2, 0), 0, 1, 2, 3, 4);
+        x.makes("cell", 1, 0, 10, 9, 1);
+        x.clashes(0, 1, clash(1, NONE, 9));
+        x.makes("cell", 1, 0, 10, 5, 1);
+        x.makes("retype", 1, 0, 8, 0, 0);
+        x.clashes(0, 1, clash(1, NONE, 5), clash(1, NONE, 8), clash(1, NONE, 9));
+        x.clashes(1, 0, clash(1, NONE, 5), clash(1, NONE, 8), clash(1, NONE, 9));
     }
 
     // ---- 2
@@ -121,10 +164,31 @@ public final class EdgesOfClashesTest {
     }
 
     private static void kindInBothAlike() {
-        none("2: KIND and RULE are CHANGED in both, alike", steps(step("retype", 0, 3, 1)), steps(step("retype", 0, 3, 1)));
+        none("2: KIND and RULE are CHANGED in both, alike", steps(step("retype", 0, 3, 1)),
+            steps(step("retype", 0, 3, 1)));
         none("2: CHANGED in one alone", steps(step("retype", 0, 3, 1)), steps(step("retype", 1, 3, 2)));
         none("2: in one it is as in the BASE again", steps(step("retype", 0, 3, 1)),
             steps(step("retype", 0, 2, 2), step("retype", 0, 1, 0)));
+    }
+
+    private static void kindAtOtherPlaces() {
+        none("2: alike, with another COLUMN gone in one", steps(step("drop", 0), step("retype", 1, 3, 1)),
+            steps(step("retype", 1, 3, 1)));
+        clashes("2: unlike, with another COLUMN gone in one", steps(step("drop", 0), step("retype", 1, 3, 1)),
+            steps(step("retype", 1, 3, 2)), clash(2, NONE, 1));
+    }
+
+    /** The CLASH 2 of an earlier merge does not keep the COLUMN from the CLASHES of a later one. */
+    private static void kindClashOfEarlierMerge() {
+        Calls x = Parted.calls(DUE, "2: COLUMNS without a CLASH 2 in this merge", steps(step("retype", 0, 2, 0)),
+            steps(step("retype", 0, 3, 0)));
+        x.makes("cell", 2, 0, 10, 0, 1);
+        x.makes("cell", 3, 0, 10, 0, 2);
+        x.clashes(0, 1, clash(2, NONE, 0));
+        x.clashes(2, 3, clash(6, 0, 0));
+        x.clashes(0, 1, clash(2, NONE, 0));
+        x.makes("gone", 4, 0, 10);
+        x.clashes(4, 3, clash(4, 0, NONE));
     }
 
     private static void kindOfWhatIsNew() {
@@ -265,8 +329,8 @@ public final class EdgesOfClashesTest {
     }
 
     private static void keyNotOfRowsThatGo() {
-        clashes("5: in ROWS that are in both", steps(step("move", 11, 50), step("gone", 50)), steps(step("move", 11, 99)),
-            clash(4, 1, NONE));
+        clashes("5: in ROWS that are in both", steps(step("move", 11, 50), step("gone", 50)),
+            steps(step("move", 11, 99)), clash(4, 1, NONE));
     }
 
     // ---- 6
@@ -285,17 +349,19 @@ public final class EdgesOfClashesTest {
         none("6: CHANGED in both, alike", steps(step("cell", 10, 0, 1)), steps(step("cell", 10, 0, 1)));
         none("6: CHANGED in both, EMPTY", steps(step("empty", 10, 0)), steps(step("empty", 10, 0)));
         none("6: CHANGED in one alone", steps(step("cell", 10, 0, 1)), steps(step("cell", 10, 0, 500)));
-        none("6: CONVERTED, alike", steps(step("retype", 0, 0, 2), step("cell", 11, 0, 127)), steps(step("cell", 11, 0, 128)));
+        none("6: CONVERTED, alike", steps(step("retype", 0, 0, 2), step("cell", 11, 0, 127)),
+            steps(step("cell", 11, 0, 128)));
         none("6: CONVERTED, as the BASE", steps(step("retype", 0, 0, 2), step("cell", 10, 0, 126)),
             steps(step("cell", 10, 0, 128)));
-        clashes("6: in ROWS that are in both", steps(step("cell", 10, 0, 1), step("gone", 10)), steps(step("cell", 10, 0, 2)),
-            clash(4, 0, NONE));
+        clashes("6: in ROWS that are in both", steps(step("cell", 10, 0, 1), step("gone", 10)),
+            steps(step("cell", 10, 0, 2)), clash(4, 0, NONE));
     }
 
     private static void cellNotWhereRuleIs() {
         clashes("6: not where 3 is", steps(step("cell", 10, 0, 5), step("retype", 0, 0, 0)),
             steps(step("cell", 10, 0, 128)), clash(3, 0, 0));
-        clashes("6: not where 3 is, but beside it", steps(step("cell", 10, 0, 5), step("cell", 10, 1, 5), step("retype", 0, 0, 0)),
+        clashes("6: not where 3 is, but beside it",
+            steps(step("cell", 10, 0, 5), step("cell", 10, 1, 5), step("retype", 0, 0, 0)),
             steps(step("cell", 10, 0, 128), step("cell", 10, 1, 6)), clash(3, 0, 0), clash(6, 0, 1));
     }
 
@@ -313,7 +379,8 @@ public final class EdgesOfClashesTest {
     private static void sameKey() {
         clashes("7: of the RESULT a lesser ROW has its KEY", steps(step("row", 60)), steps(step("row", 60)),
             clash(7, 4, NONE));
-        clashes("7: a lesser ROW that moved there", steps(step("move", 10, 60)), steps(step("row", 60)), clash(7, 3, NONE));
+        clashes("7: a lesser ROW that moved there", steps(step("move", 10, 60)), steps(step("row", 60)),
+            clash(7, 3, NONE));
         clashes("7: two that moved there", steps(step("move", 12, 60)), steps(step("move", 10, 60)), clash(7, 2, NONE));
         clashes("7: of each ROW", steps(step("row", 60), step("row", 0)), steps(step("row", 0), step("row", 60)),
             clash(7, 5, NONE), clash(7, 6, NONE));
@@ -324,6 +391,8 @@ public final class EdgesOfClashesTest {
 
     private static void noSameKey() {
         none("7: a ROW that is not of the RESULT has none", steps(step("gone", 10), step("row", 10)), ELSEWHERE);
+        none("7: a ROW that is not of the RESULT, the greater one", steps(step("gone", 11), step("move", 10, 11)),
+            ELSEWHERE);
         none("7: a KEY that its ROW left", steps(step("move", 10, 60), step("row", 10)), ELSEWHERE);
         none("7: two ROWS that changed places", steps(step("move", 10, 60), step("move", 11, 10), step("move", 60, 11)),
             ELSEWHERE);
@@ -336,8 +405,10 @@ public final class EdgesOfClashesTest {
         Parted.Step[] two = steps(step("column", 0), step("column", 0));
         Parted.merged(DUE, "8: 5 COLUMNS", two, steps(step("column", 0)), (x, v) -> x.is(5, "version", v, 3));
         clashes("8: more than 5 COLUMNS", two, two, clash(8, NONE, NONE));
-        Parted.merged(DUE, "8: 5 COLUMNS, with one that goes", two, steps(step("column", 0), step("column", 0), step("drop", 0)),
-            (x, v) -> x.is(5, "version", v, 3));
+        Parted.merged(DUE, "8: 5 COLUMNS, with one that goes", two,
+            steps(step("column", 0), step("column", 0), step("drop", 0)), (x, v) -> x.is(5, "version", v, 3));
+        clashes("8: more than 5 COLUMNS, with one that goes", two,
+            steps(step("drop", 0), step("column", 0), step("column", 0), step("column", 0)), clash(8, NONE, NONE));
     }
 
     private static Parted.Step[] rows(int firstKey, int howMany) {
@@ -351,6 +422,13 @@ public final class EdgesOfClashesTest {
     private static void sizeOfRows() {
         Parted.merged(DUE, "8: 16 ROWS", rows(20, 7), rows(40, 6), (x, v) -> x.is(16, "version", v, 4));
         clashes("8: more than 16 ROWS", rows(20, 7), rows(40, 7), clash(8, NONE, NONE));
+        Calls x = Parted.calls(DUE, "8: ROWS, with one that goes", steps(step("gone", 12)), rows(40, 7));
+        for (Parted.Step row : rows(20, 7)) {
+            row.makeOn(x, 0);
+        }
+        x.is(6, "branch", 2, x.makes("row", 0, 0, 27) - 1);
+        x.clashes(0, 1, clash(8, NONE, NONE));
+        x.is(16, "version", x.makes("merge", 2, 1, 0), 4);
         clashes("8: 29 ROWS", rows(20, 13), rows(40, 13), clash(8, NONE, NONE));
     }
 
@@ -371,8 +449,8 @@ public final class EdgesOfClashesTest {
 
     private static void lastOnesOnlyAlone() {
         Parted.Step[][] ones = {steps(step("drop", 0)), steps(step("retype", 0, 2, 0)),
-            steps(step("cell", 10, 0, 5), step("retype", 0, 0, 0)), steps(step("gone", 10)), steps(step("move", 10, 50)),
-            steps(step("cell", 10, 0, 5))};
+            steps(step("cell", 10, 0, 5), step("retype", 0, 0, 0)), steps(step("gone", 10)),
+            steps(step("move", 10, 50)), steps(step("cell", 10, 0, 5))};
         Parted.Step[][] others = {steps(step("cell", 10, 0, 6)), steps(step("retype", 0, 3, 0)), ELSEWHERE,
             steps(step("move", 10, 51)), steps(step("move", 10, 51)), steps(step("cell", 10, 0, 6))};
         int[][] found = {clash(1, NONE, 0), clash(2, NONE, 0), clash(3, 0, 0), clash(4, 0, NONE), clash(5, 0, NONE),
@@ -439,7 +517,41 @@ public final class EdgesOfClashesTest {
         x.makes("retype", 0, 0, 4, 1, 0);
         x.makes("retype", 0, 0, 3, 1, 0);
         int[][] all = {clash(3, 4, 3), clash(3, 4, 4), clash(3, 5, 3), clash(3, 5, 4), clash(6, 0, 0), clash(6, 0, 1),
-            clash(6, 0, 2), clash(6, 1, 0), clash(6, 1, 1), clash(6, 1, 2), clash(6, 2, 0), clash(6, 2, 1), clash(6, 2, 2)};
+            clash(6, 0, 2), clash(6, 1, 0), clash(6, 1, 1), clash(6, 1, 2), clash(6, 2, 0), clash(6, 2, 1),
+            clash(6, 2, 2)};
+        x.clashes(0, 1, all);
+        x.clashes(1, 0, all);
+    }
+
+    /** COLUMNS 2 to 4 and ROWS 5 to 8 of a TABLE: neither places, nor alike. */
+    private static void numbersNotPlaces() {
+        Calls x = new Calls(DUE, "CLASHES tell NUMBERS");
+        for (int i = 0; i < 5; i++) {
+            x.makes("row", 4, 0, i);
+        }
+        x.makes("column", 4, 0, 0);
+        x.makes("column", 4, 0, 0);
+        for (int i = 0; i < 3; i++) {
+            x.makes("column", 0, 0, 2);
+        }
+        for (int key = 10; key < 14; key++) {
+            x.makes("row", 0, 0, key);
+        }
+        x.is(0, "branch", 1, 14);
+        x.makes("drop", 0, 0, 2);
+        x.makes("cell", 1, 0, 12, 2, 5);
+        x.makes("retype", 0, 0, 3, 1, 0);
+        x.makes("retype", 1, 0, 3, 3, 0);
+        x.makes("retype", 0, 0, 4, 0, 0);
+        x.makes("cell", 1, 0, 13, 4, 1000);
+        x.makes("gone", 0, 0, 10);
+        x.makes("move", 1, 0, 10, 50);
+        x.makes("move", 0, 0, 11, 51);
+        x.makes("move", 1, 0, 11, 52);
+        x.makes("cell", 0, 0, 12, 4, 1);
+        x.makes("cell", 1, 0, 12, 4, 2);
+        int[][] all = {clash(1, NONE, 2), clash(2, NONE, 3), clash(3, 8, 4), clash(4, 5, NONE), clash(5, 6, NONE),
+            clash(6, 7, 4)};
         x.clashes(0, 1, all);
         x.clashes(1, 0, all);
     }

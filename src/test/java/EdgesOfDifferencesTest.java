@@ -22,6 +22,7 @@ public final class EdgesOfDifferencesTest {
         whoMadeItIsNone();
         acrossBranches();
         order();
+        numbersNotPlaces();
         mostDifferences();
         nothingInCommon();
         DUE.end();
@@ -38,8 +39,11 @@ public final class EdgesOfDifferencesTest {
 
     private static void ofOneVersion() {
         Calls x = start("from a VERSION to itself there is none");
-        x.differencesAre(0, 0);
         x.differencesAre(6, 6);
+        x.differencesAre(0, 6, told(2, NONE, 0), told(2, NONE, 1), told(5, 0, NONE), told(5, 1, NONE),
+            told(5, 2, NONE));
+        x.differencesAre(0, 0);
+        x.differencesAre(2, 2);
     }
 
     private static void columnGoes() {
@@ -210,6 +214,30 @@ public final class EdgesOfDifferencesTest {
         x.differencesAre(to, from, told(1, NONE, 3), told(1, NONE, 4), told(2, NONE, 0), told(3, NONE, 1),
             told(3, NONE, 2), told(4, 4, NONE), told(4, 5, NONE), told(5, 0, NONE), told(5, 1, NONE), told(6, 2, NONE),
             told(6, 3, NONE), told(7, 2, 1), told(7, 2, 2), told(7, 3, 1), told(7, 3, 2));
+    }
+
+    /** COLUMNS 3 and 4, ROWS 1 and 2 of a TABLE: neither places, nor alike. */
+    private static void numbersNotPlaces() {
+        Calls x = new Calls(DUE, "DIFFERENCES tell NUMBERS");
+        x.makes("row", 4, 0, 0);
+        for (int column = 0; column < 3; column++) {
+            x.makes("column", 4, 0, 0);
+        }
+        x.makes("column", 0, 0, 1);
+        x.makes("column", 0, 0, 1);
+        x.makes("row", 0, 0, 7);
+        int from = x.makes("row", 0, 0, 8);
+        x.makes("retype", 0, 0, 4, 2, 0);
+        x.makes("move", 0, 0, 7, 9);
+        x.makes("cell", 0, 0, 9, 3, 1);
+        int to = x.makes("cell", 0, 0, 8, 4, 1);
+        x.differencesAre(from, to, told(3, NONE, 4), told(6, 1, NONE), told(7, 1, 3), told(7, 2, 4));
+        int last = x.makes("drop", 0, 0, 3);
+        x.differencesAre(to, last, told(1, NONE, 3));
+        x.differencesAre(from, last, told(1, NONE, 3), told(3, NONE, 4), told(6, 1, NONE), told(7, 2, 4));
+        int gone = x.makes("gone", 0, 0, 9);
+        x.differencesAre(from, gone, told(1, NONE, 3), told(3, NONE, 4), told(4, 1, NONE), told(7, 2, 4));
+        x.differencesAre(gone, from, told(2, NONE, 3), told(3, NONE, 4), told(5, 1, NONE), told(7, 2, 4));
     }
 
     /** 5 KINDS, 16 KEYS and 80 CELLS: no two VERSIONS have more. */

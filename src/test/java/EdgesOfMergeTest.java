@@ -9,6 +9,9 @@ public final class EdgesOfMergeTest {
         baseIsTheOther();
         baseIsWhereTheBranchIs();
         baseOfEmptyTable();
+        emptyTables();
+        widestAndLongest();
+        placesInTheBase();
         columnsOfTheResult();
         rowsOfTheResult();
         kindChangedInOne();
@@ -108,6 +111,104 @@ public final class EdgesOfMergeTest {
         x.rowsAre(v, 0);
         x.columnsAre(v, 0);
         x.emptyIs(v, v, 1, 0);
+    }
+
+    /** Behind a merge of TABLES with ROWS and COLUMNS, so that nothing of it is left over. */
+    private static void emptyTables() {
+        Calls x = parted("TABLES without ROWS, without COLUMNS", steps(step("cell", 11, 0, 1)),
+            steps(step("cell", 12, 0, 2)));
+        x.makes("merge", 0, 1, 0);
+        x.is(6, "branch", 2, 1);
+        x.is(6, "branch", 3, 1);
+        x.makes("column", 2, 0, 0);
+        x.makes("column", 3, 0, 0);
+        int v = x.makes("merge", 2, 3, 0);
+        x.rowsAre(v);
+        x.columnsAre(v, 0, 2, 3);
+        x.is(v, "branch", 2, 0);
+        x.is(v - 1, "branch", 3, 0);
+        x.makes("row", 2, 0, 5);
+        x.makes("row", 3, 0, 6);
+        v = x.makes("merge", 2, 3, 0);
+        x.rowsAre(v, 3, 4);
+        x.columnsAre(v);
+        Calls y = new Calls(DUE, "TABLES without anything");
+        y.makes("row", 0, 0, 5);
+        y.makes("gone", 0, 0, 5);
+        y.makes("column", 1, 0, 0);
+        y.makes("drop", 1, 0, 0);
+        v = y.makes("merge", 0, 1, 0);
+        y.rowsAre(v);
+        y.columnsAre(v);
+    }
+
+    private static void widestAndLongest() {
+        Calls x = new Calls(DUE, "one ROW with 5 COLUMNS");
+        for (int column = 0; column < 5; column++) {
+            x.makes("column", 0, 0, 0);
+        }
+        x.is(6, "row", 0, 0, 0);
+        x.is(0, "branch", 1, 6);
+        for (int column = 0; column < 5; column++) {
+            x.is(7 + column, "cell", column % 2, 0, 0, column, 100 + column);
+        }
+        int v = x.makes("merge", 0, 1, 0);
+        for (int column = 0; column < 5; column++) {
+            x.numberIs(100 + column, 7 + column, v, 0, column);
+        }
+        Calls y = new Calls(DUE, "16 ROWS with one COLUMN");
+        y.makes("column", 0, 0, 0);
+        for (int key = 0; key < 16; key++) {
+            y.makes("row", 0, 0, key);
+        }
+        y.is(0, "branch", 1, 17);
+        for (int key = 0; key < 16; key++) {
+            y.is(18 + key, "cell", key % 2, 0, key, 0, 100 + key);
+        }
+        v = y.makes("merge", 0, 1, 0);
+        for (int key = 0; key < 16; key++) {
+            y.numberIs(100 + key, 18 + key, v, key, 0);
+        }
+    }
+
+    /** What went in both leaves the rest at other places than in the BASE: ROW 0, or COLUMN 0, or both. */
+    private static void placesInTheBase() {
+        for (int into = 0; into < 2; into++) {
+            goneInBoth(into, true, true);
+            goneInBoth(into, true, false);
+            goneInBoth(into, false, true);
+        }
+        Parted.merged(DUE, "a ROW's KEY, with a COLUMN gone in one", steps(step("move", 10, 50), step("drop", 0)),
+            steps(step("move", 11, 51)), (x, v) -> {
+                x.is(50, "rowOf", v, 0, 1);
+                x.is(51, "rowOf", v, 1, 1);
+            });
+    }
+
+    private static void goneInBoth(int into, boolean row, boolean column) {
+        Calls x = Parted.start(DUE, "CHANGED, if it is unlike that in the BASE");
+        for (int key = 10; key < 13; key++) {
+            x.makes("cell", 0, 0, key, 1, key);
+        }
+        int base = x.makes("column", 0, 0, 3);
+        x.is(6, "branch", 1, base);
+        for (int branch = 0; branch < 2; branch++) {
+            if (row) {
+                x.makes("gone", branch, 0, 10);
+            }
+            if (column) {
+                x.makes("drop", branch, 0, 0);
+            }
+        }
+        int one = x.makes("cell", 0, 0, 12, 1, 99);
+        int other = x.makes("cell", 1, 0, 11, 2, 98);
+        int v = x.makes("merge", into, 1 - into, 0);
+        x.is(row ? 2 : 3, "version", v, 4);
+        x.is(column ? 2 : 3, "version", v, 3);
+        x.numberIs(99, one, v, 12, 1);
+        x.numberIs(98, other, v, 11, 2);
+        x.numberIs(11, 8, v, 11, 1);
+        x.emptyIs(base, v, 12, 2);
     }
 
     // ---- the RESULT
@@ -278,8 +379,8 @@ public final class EdgesOfMergeTest {
             Calls y = parted(sentence + ", EMPTY", steps(step("empty", 10, 0)), steps(step("empty", 10, 0)));
             y.emptyIs(7, y.makes("merge", into, 1 - into, 0), 10, 0);
         }
-        Calls z = parted(sentence + ": not the lesser of a and b", steps(step("cell", 11, 1, 1), step("cell", 10, 0, 7)),
-            NOTHING);
+        Calls z = parted(sentence + ": not the lesser of a and b",
+            steps(step("cell", 11, 1, 1), step("cell", 10, 0, 7)), NOTHING);
         z.is(9, "cell", 1, 0, 10, 0, 7);
         z.is(10, "cell", 0, 0, 12, 1, 1);
         z.numberIs(7, 8, z.makes("merge", 0, 1, 0), 10, 0);
@@ -295,7 +396,7 @@ public final class EdgesOfMergeTest {
         return -greatest(kind) - 1;
     }
 
-    /** In one the COLUMN, of 64 bits, is retyped; in the other a CELL, EMPTY in the BASE, becomes v. Merged both ways. */
+    /** In one the COLUMN, of 64 bits, is retyped, in the other a CELL, EMPTY in the BASE, becomes v; merged both ways. */
     private static void converted(String rule, long v, int to, int by, Long after) {
         for (int into = 0; into < 2; into++) {
             Calls x = new Calls(DUE, rule + ": " + v + " to KIND " + to + ", merged into " + into);
@@ -357,7 +458,8 @@ public final class EdgesOfMergeTest {
         int v = x.makes("merge", 0, 1, 0);
         x.numberIs(127, 6, v, 10, 0);
         x.numberIs(127, 8, 8, 10, 0);
-        Calls y = parted(sentence + ": in a it is that of a", steps(step("cell", 11, 1, 5)), steps(step("retype", 0, 0, 2)));
+        Calls y = parted(sentence + ": in a it is that of a", steps(step("cell", 11, 1, 5)),
+            steps(step("retype", 0, 0, 2)));
         y.numberIs(127, 8, y.makes("merge", 1, 0, 0), 10, 0);
     }
 
@@ -384,7 +486,8 @@ public final class EdgesOfMergeTest {
             Calls y = parted("CONVERTED, and CHANGED in both, alike",
                 steps(step("retype", 0, 0, 2), step("cell", 10, 0, -128)), steps(step("cell", 10, 0, -129)));
             y.numberIs(-128, 8, y.makes("merge", into, 1 - into, 0), 10, 0);
-            Calls z = parted("CONVERTED, and EMPTY in one", steps(step("retype", 0, 0, 2)), steps(step("empty", 10, 0)));
+            Calls z = parted("CONVERTED, and EMPTY in one", steps(step("retype", 0, 0, 2)),
+                steps(step("empty", 10, 0)));
             z.emptyIs(8, z.makes("merge", into, 1 - into, 0), 10, 0);
         }
     }
@@ -508,7 +611,8 @@ public final class EdgesOfMergeTest {
                 x.is(8, "value", v, 60, 1);
             });
         Parted.merged(DUE, "a NEW COLUMN, and a ROW that goes in the other",
-            steps(step("column", 0), step("cell", 11, 2, 7), step("cell", 12, 2, 8)), steps(step("gone", 11)), (x, v) -> {
+            steps(step("column", 0), step("cell", 11, 2, 7), step("cell", 12, 2, 8)), steps(step("gone", 11)),
+            (x, v) -> {
                 x.is(NO, "has", v, 11, 2);
                 x.is(8, "value", v, 12, 2);
             });

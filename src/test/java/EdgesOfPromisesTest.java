@@ -1,4 +1,4 @@
-/** Each sentence of promises 1 to 23 that names a boundary case: the last number that is taken, the first that is not. */
+/** Sentences of promises 1 to 23 that name a boundary case: the last number that is taken, the first that is not. */
 public final class EdgesOfPromisesTest {
     private static final int BAD = -1, NO = -2, FULL = -3, NONE = -4;
     private static final int[] NO_KEYS = {};
@@ -52,6 +52,7 @@ public final class EdgesOfPromisesTest {
         badAheadOfFull();
         noAheadOfFull();
         readingWhenFull();
+        lastPromisedCall();
         DUE.end();
     }
 
@@ -83,7 +84,7 @@ public final class EdgesOfPromisesTest {
         return new long[] {least - 1, greatest + 1, Integer.MIN_VALUE, Integer.MAX_VALUE};
     }
 
-    /** At one place of a change the numbers from least to greatest are taken; those beyond are BAD, and change nothing. */
+    /** At one place of a change the numbers least to greatest are taken; those beyond are BAD, and nothing changes. */
     private static void edges(String sentence, int[] keys, int place, long least, long greatest, Calls.Call call) {
         Calls x = start(sentence, keys);
         for (long number : beyond(least, greatest)) {
@@ -94,7 +95,7 @@ public final class EdgesOfPromisesTest {
         }
     }
 
-    /** At one place of a call that changes nothing the numbers from least to greatest are told, those beyond are BAD. */
+    /** At one place of a call that changes nothing the numbers least to greatest are told, those beyond are BAD. */
     private static void readEdges(Calls x, int place, long least, long greatest, long[] wants, Calls.Call call) {
         for (long number : beyond(least, greatest)) {
             x.refused(BAD, call.name(), with(call.numbers(), place, number));
@@ -726,11 +727,11 @@ public final class EdgesOfPromisesTest {
 
     // ---- FULL: 150 VERSIONS
 
-    private static final Calls.Call[] CHANGES = {call("row", 0, 0, 50), call("gone", 0, 0, 99), call("cell", 0, 0, 0, 0, 1),
-        call("empty", 0, 0, 0, 0), call("column", 0, 0, 0), call("drop", 0, 0, 0), call("retype", 0, 0, 0, 3, 0),
-        call("move", 0, 0, 0, 50), call("merge", 0, 2, 0)};
+    private static final Calls.Call[] CHANGES = {call("row", 0, 0, 50), call("gone", 0, 0, 99),
+        call("cell", 0, 0, 0, 0, 1), call("empty", 0, 0, 0, 0), call("column", 0, 0, 0), call("drop", 0, 0, 0),
+        call("retype", 0, 0, 0, 3, 0), call("move", 0, 0, 0, 50), call("merge", 0, 2, 0)};
 
-    /** As start() with the OUTER_KEYS, a cell of COLUMN 1 that is none of 8 bits, and a VERSION on BRANCH 2 to be merged. */
+    /** As start() with the OUTER_KEYS, a CELL of COLUMN 1 that is none of 8 bits, a VERSION on BRANCH 2 to be merged. */
     private static Calls filled(String sentence, int versions) {
         Calls x = start(sentence, OUTER_KEYS);
         x.makes("cell", 0, 0, 99, 1, 128);
@@ -821,5 +822,15 @@ public final class EdgesOfPromisesTest {
         x.is(3, "madeBy", 149, 0, 0);
         x.is(1, "differences", 148, 149);
         x.is(BAD, "differences", 149, 150);
+    }
+
+    private static void lastPromisedCall() {
+        String sentence = "An object is used for at most 512 calls: call ";
+        TableHistories x = new TableHistories();
+        for (int call = 1; call < 512; call++) {
+            long answer = call % 2 == 1 ? x.row(0, 0, 5) : x.gone(0, 0, 5);
+            DUE.is(sentence + call, answer, call < 150 ? call : call % 2 == 1 ? NO : FULL);
+        }
+        DUE.is(sentence + 512, x.count(0), 150);
     }
 }

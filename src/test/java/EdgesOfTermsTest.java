@@ -414,7 +414,7 @@ public final class EdgesOfTermsTest {
         }
     }
 
-    /** COLUMNS 0 to 2, ROWS 0 to 2 with the KEYS 10 to 12, in each CELL 10 * ROW + COLUMN, MADE by 7 + 3 * ROW + COLUMN. */
+    /** COLUMNS 0 to 2, ROWS 0 to 2 (KEYS 10 to 12), in each CELL 10 * ROW + COLUMN, MADE by 7 + 3 * ROW + COLUMN. */
     private static int threeByThree(Calls x) {
         for (int i = 0; i < 3; i++) {
             x.makes("column", 0, 0, 2);

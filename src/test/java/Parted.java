@@ -18,7 +18,7 @@ final class Parted {
         void at(Calls x, int v);
     }
 
-    /** COLUMNS 0 (16 bits) and 1 (32 bits), ROWS 0 to 2 with the KEYS 10 to 12, a 500 at 10, 0; all BRANCHES are at 6. */
+    /** COLUMNS 0 (16 bits), 1 (32 bits), ROWS 0 to 2 with the KEYS 10 to 12, a 500 at 10, 0; all BRANCHES are at 6. */
     static Calls start(Due due, String sentence) {
         Calls x = new Calls(due, sentence);
         x.is(1, "column", 0, 0, 1);
@@ -60,7 +60,7 @@ final class Parted {
         x.clashes(1, 0, all);
     }
 
-    /** ROW 3 (KEY 60), COLUMN 2 and a 4 there, MADE by 9, are in the BRANCHES 2 (at 11) and 3 (at 12), not in their BASE, 10. */
+    /** ROW 3 (KEY 60), COLUMN 2 and a 4 there, MADE by 9, are in 11 (BRANCH 2) and 12 (BRANCH 3), not in their BASE, 10. */
     static Calls across(Due due, String sentence) {
         Calls x = start(due, sentence);
         x.is(7, "row", 0, 0, 60);
