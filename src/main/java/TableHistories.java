@@ -593,7 +593,8 @@ public final class TableHistories {
             for (int column = 0; column < columns.size; column++) {
                 if (column != goneColumn) {
                     int slot = slotAt(row, column);
-                    copy.putCell(copy.slotAt(copy.rows.size - 1, to), isFilled(slot), cellNumber(slot), cellMaker(slot));
+                    int slotInCopy = copy.slotAt(copy.rows.size - 1, to);
+                    copy.putCell(slotInCopy, isFilled(slot), cellNumber(slot), cellMaker(slot));
                     to++;
                 }
             }

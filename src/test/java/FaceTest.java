@@ -24,6 +24,9 @@ public final class FaceTest {
     private static final List<String> FORBIDDEN = List.of("throw", "try", "catch", "synchronized", "assert",
         "Exception", "Random", "System.currentTimeMillis", "System.nanoTime", "Thread", "File", "->", "::");
 
+    private static final List<String> LIBRARY = List.of("Math.min", "Math.max", "Math.abs", "Arrays.fill",
+        "Arrays.copyOf", "Arrays.copyOfRange", "System.arraycopy");
+
     public static void main(String[] args) throws IOException {
         Due due = new Due();
         checkClass(due);
@@ -91,12 +94,23 @@ public final class FaceTest {
         Class<?>[] inside = TableHistories.class.getDeclaredClasses();
         due.isTrue("at most twelve classes", inside.length + 1 <= 12);
         for (Class<?> one : inside) {
-            due.isTrue(one + " is static", Modifier.isStatic(one.getModifiers()));
+            int modifiers = one.getModifiers();
+            due.isTrue(one + " is static", Modifier.isStatic(modifiers));
+            due.isTrue(one + " is not open", !Modifier.isPublic(modifiers) && !Modifier.isProtected(modifiers));
             due.isTrue(one + " has at most twenty fields", one.getDeclaredFields().length <= 20);
+            for (Field field : one.getDeclaredFields()) {
+                due.isTrue(field + " is no static state", !Modifier.isStatic(field.getModifiers()));
+            }
             for (Method method : one.getDeclaredMethods()) {
                 due.isTrue(method + " takes at most seven", method.getParameterCount() <= 7);
+                due.isTrue(method + " has a name of its own", !isOfTheFace(method.getName()));
             }
+            due.is(one + " has classes inside", one.getDeclaredClasses().length, 0);
         }
+    }
+
+    private static boolean isOfTheFace(String name) {
+        return Arrays.stream(FACE).anyMatch(method -> method.contains(" " + name + "("));
     }
 
     private static void checkText(Due due) throws IOException {
@@ -113,5 +127,33 @@ public final class FaceTest {
                 List.of("java.util.Arrays", "java.util.ArrayList", "java.util.List").contains(imports.group(1)));
         }
         due.isTrue("no package", !Pattern.compile("(?m)^package ").matcher(code).find());
+        checkLibrary(due, code);
+        checkLengths(due, text.split("\n"));
+    }
+
+    /** Calls by the name of a class: only those of the library that the rules list. */
+    private static void checkLibrary(Due due, String code) {
+        Matcher calls = Pattern.compile("\\b([A-Z]\\w*\\.\\w+)\\(").matcher(code);
+        while (calls.find()) {
+            due.isTrue("library: " + calls.group(1), LIBRARY.contains(calls.group(1)));
+        }
+    }
+
+    /** A method goes from a line that opens it to the next line that has its closing bracket just as far in. */
+    private static void checkLengths(Due due, String[] lines) {
+        Pattern opening = Pattern.compile("( {4}| {8})(?!.*\\bclass\\b)\\S.*\\) \\{");
+        int methods = 0;
+        for (int i = 0; i < lines.length; i++) {
+            Matcher start = opening.matcher(lines[i]);
+            if (start.matches()) {
+                int end = i;
+                while (end < lines.length - 1 && !lines[end].equals(start.group(1) + "}")) {
+                    end++;
+                }
+                methods++;
+                due.isTrue("at most sixty lines: " + lines[i].trim(), end - i < 60);
+            }
+        }
+        due.isTrue("methods are seen", methods > FACE.length);
     }
 }

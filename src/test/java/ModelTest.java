@@ -10,6 +10,8 @@ import java.util.TreeSet;
 public final class ModelTest {
     private static final int BAD = -1, NO = -2, FULL = -3, NONE = -4;
     private static final int RUNS = 1500;
+    /** The document promises nothing of an object beyond these. */
+    private static final int MOST_CALLS = 512;
     private static final long[] NUMBERS = {0, 1, -1, 5, 100, 127, 128, -128, -129, 255, 256, 1000, 32767, 32768, -32768,
         -32769, 65536, 70000, -70000, 2147483647L, 2147483648L, -2147483648L, -2147483649L, 4294967296L + 7,
         Long.MAX_VALUE, Long.MIN_VALUE};
@@ -594,12 +596,19 @@ public final class ModelTest {
         }
     }
 
+    /** A call that may change the object. */
+    private interface Change {
+        long on(TableHistories x);
+    }
+
     /** One run: the same calls on the class and on the model. */
     private static final class Run {
         final Due due;
         final int seed;
         final Random chance;
-        final TableHistories real = new TableHistories();
+        final List<Change> past = new ArrayList<>();
+        TableHistories object = new TableHistories();
+        int used = 0;
         final Model model = new Model();
         final int keys;
         final int branches;
@@ -612,6 +621,25 @@ public final class ModelTest {
             chance = new Random(seed);
             keys = seed % 3 == 0 ? 4 : seed % 3 == 1 ? 10 : 60;
             branches = 2 + seed % 4;
+        }
+
+        /** The object for one call more; past its last promised one, a new one on which the same changes were made. */
+        TableHistories real() {
+            if (used == MOST_CALLS) {
+                object = new TableHistories();
+                for (Change change : past) {
+                    change.on(object);
+                }
+                used = past.size();
+            }
+            used++;
+            return object;
+        }
+
+        long changed(Change change) {
+            long answer = change.on(real());
+            past.add(change);
+            return answer;
         }
 
         void is(String call, long got, long want) {
@@ -633,7 +661,8 @@ public final class ModelTest {
         int key(int branch) {
             List<Integer> there = new ArrayList<>(model.on(branch).keys.values());
             if (there.isEmpty() || chance.nextInt(12) == 0) {
-                return chance.nextInt(60) == 0 ? 99 + chance.nextInt(2) : chance.nextInt(keys + 1) - (chance.nextInt(9) / 8);
+                boolean atTheEdge = chance.nextInt(60) == 0;
+                return atTheEdge ? 99 + chance.nextInt(2) : chance.nextInt(keys + 1) - (chance.nextInt(9) / 8);
             }
             return there.get(chance.nextInt(there.size()));
         }
@@ -661,41 +690,42 @@ public final class ModelTest {
             if (model.versions.size() > before) {
                 checkVersion(before);
             }
-            is("at", real.at(branch), model.at[branch]);
-            is("count(0)", real.count(0), model.versions.size());
-            is("count(1)", real.count(1), model.columnsEver);
-            is("count(2)", real.count(2), model.rowsEver);
-            is("count(3)", real.count(3), model.clashes.size());
+            is("at", real().at(branch), model.at[branch]);
+            is("count(0)", real().count(0), model.versions.size());
+            is("count(1)", real().count(1), model.columnsEver);
+            is("count(2)", real().count(2), model.rowsEver);
+            is("count(3)", real().count(3), model.clashes.size());
         }
 
         void change(int dice, int branch, int given, int who) {
             if (dice < 20) {
                 int key = chance.nextInt(20) == 0 ? key(branch) : chance.nextInt(keys);
-                is("row", real.row(given, who, key), model.row(given, who, key));
+                is("row", changed(x -> x.row(given, who, key)), model.row(given, who, key));
             } else if (dice < 26) {
                 int key = key(branch);
-                is("gone", real.gone(given, who, key), model.gone(given, who, key));
+                is("gone", changed(x -> x.gone(given, who, key)), model.gone(given, who, key));
             } else if (dice < 52) {
                 write(branch, given, who);
             } else if (dice < 60) {
                 int kind = pick(4);
-                is("column", real.column(given, who, kind), model.column(given, who, kind));
+                is("column", changed(x -> x.column(given, who, kind)), model.column(given, who, kind));
             } else if (dice < 62) {
                 int column = column(branch);
-                is("drop", real.drop(given, who, column), model.drop(given, who, column));
+                is("drop", changed(x -> x.drop(given, who, column)), model.drop(given, who, column));
             } else if (dice < 69) {
                 int column = column(branch);
                 int kind = pick(4);
                 int rule = pick(3);
-                is("retype", real.retype(given, who, column, kind, rule), model.retype(given, who, column, kind, rule));
+                is("retype", changed(x -> x.retype(given, who, column, kind, rule)),
+                    model.retype(given, who, column, kind, rule));
             } else if (dice < 74) {
                 int key = key(branch);
                 int to = chance.nextInt(10) == 0 ? key(branch) : chance.nextInt(keys);
-                is("move", real.move(given, who, key, to), model.move(given, who, key, to));
+                is("move", changed(x -> x.move(given, who, key, to)), model.move(given, who, key, to));
             } else if (dice < 82) {
                 int last = model.versions.size();
                 int version = chance.nextInt(20) == 0 ? last : Math.max(0, last - 1 - chance.nextInt(12));
-                is("branch", real.branch(given, version), model.branch(given, version));
+                is("branch", changed(x -> x.branch(given, version)), model.branch(given, version));
             } else {
                 merge(given, chance.nextInt(branches), who);
             }
@@ -705,16 +735,17 @@ public final class ModelTest {
             int key = key(branch);
             int column = column(branch);
             if (chance.nextInt(6) == 0) {
-                is("empty", real.empty(given, who, key, column), model.write(given, who, key, column, null));
+                is("empty", changed(x -> x.empty(given, who, key, column)), model.write(given, who, key, column, null));
             } else {
                 long v = number();
-                is("cell", real.cell(given, who, key, column, v), model.write(given, who, key, column, v));
+                is("cell", changed(x -> x.cell(given, who, key, column, v)), model.write(given, who, key, column, v));
             }
         }
 
         void merge(int branch, int other, int who) {
             List<int[]> before = model.clashes;
-            is("merge(" + branch + ", " + other + ")", real.merge(branch, other, who), model.merge(branch, other, who));
+            is("merge(" + branch + ", " + other + ")", changed(x -> x.merge(branch, other, who)),
+                model.merge(branch, other, who));
             for (int i = 0; i <= model.clashes.size(); i++) {
                 checkFinding("clash " + i, i, model.clashes);
             }
@@ -727,58 +758,67 @@ public final class ModelTest {
 
         void checkFinding(String what, int i, List<int[]> all) {
             for (int part = 0; part < 3; part++) {
-                is(what, real.clash(i, part), i < all.size() ? all.get(i)[part] : NONE);
+                is(what, real().clash(i, part), i < all.size() ? all.get(i)[part] : NONE);
             }
         }
 
         void checkVersion(int v) {
             Sheet sheet = model.versions.get(v);
-            is("who", real.version(v, 0), sheet.who);
-            is("parent", real.version(v, 1), sheet.parent);
-            is("second parent", real.version(v, 2), sheet.second);
-            is("columns", real.version(v, 3), sheet.columns.size());
-            is("rows", real.version(v, 4), sheet.keys.size());
+            is("who", real().version(v, 0), sheet.who);
+            is("parent", real().version(v, 1), sheet.parent);
+            is("second parent", real().version(v, 2), sheet.second);
+            is("columns", real().version(v, 3), sheet.columns.size());
+            is("rows", real().version(v, 4), sheet.keys.size());
             int i = 0;
             for (int c : sheet.columns.keySet()) {
-                is("column's number", real.columnOf(v, i, 0), c);
-                is("column's kind", real.columnOf(v, i, 1), sheet.columns.get(c).kind);
-                is("column's rule", real.columnOf(v, i, 2), sheet.columns.get(c).rule);
+                is("column's number", real().columnOf(v, i, 0), c);
+                is("column's kind", real().columnOf(v, i, 1), sheet.columns.get(c).kind);
+                is("column's rule", real().columnOf(v, i, 2), sheet.columns.get(c).rule);
                 i++;
             }
-            is("behind the columns", real.columnOf(v, i, 0), NONE);
+            is("behind the columns", real().columnOf(v, i, 0), NONE);
             i = 0;
             for (int r : sheet.keys.keySet()) {
-                is("row's number", real.rowOf(v, i, 0), r);
-                is("row's key", real.rowOf(v, i, 1), sheet.keys.get(r));
+                is("row's number", real().rowOf(v, i, 0), r);
+                is("row's key", real().rowOf(v, i, 1), sheet.keys.get(r));
                 i++;
             }
-            is("behind the rows", real.rowOf(v, i, 0), NONE);
+            is("behind the rows", real().rowOf(v, i, 0), NONE);
             checkCells(v, sheet);
             checkDifferences(sheet.parent == NONE ? 0 : sheet.parent, v);
             int other = chance.nextInt(model.versions.size());
-            is("base", real.base(v, other), model.base(v, other));
+            is("base", real().base(v, other), model.base(v, other));
         }
 
+        /** The cells that are there, and beside them those of a key and of a column that may not be. */
         void checkCells(int v, Sheet sheet) {
-            for (int key = 0; key < Math.min(100, keys + 1); key++) {
-                int r = sheet.rowWith(key);
-                for (int c = 0; c < model.columnsEver; c++) {
-                    boolean there = r >= 0 && sheet.columns.containsKey(c);
-                    Box box = there ? sheet.box(r, c) : null;
-                    is("has", real.has(v, key, c), there ? box.number == null ? 0 : 1 : NO);
-                    is("value", real.value(v, key, c), there && box.number != null ? box.number : 0);
-                    is("madeBy", real.madeBy(v, key, c), there ? box.maker : NO);
+            TreeSet<Integer> asked = new TreeSet<>(sheet.keys.values());
+            asked.add(chance.nextInt(100));
+            TreeSet<Integer> cs = new TreeSet<>(sheet.columns.keySet());
+            cs.add(chance.nextInt(model.columnsEver + 1));
+            for (int key : asked) {
+                for (int c : cs) {
+                    checkCell(v, sheet, key, c);
                 }
-                is("has of no column", real.has(v, key, model.columnsEver), BAD);
             }
+        }
+
+        void checkCell(int v, Sheet sheet, int key, int c) {
+            int r = sheet.rowWith(key);
+            boolean there = r >= 0 && sheet.columns.containsKey(c);
+            int none = c < model.columnsEver ? NO : BAD;
+            Box box = there ? sheet.box(r, c) : null;
+            is("has", real().has(v, key, c), there ? box.number == null ? 0 : 1 : none);
+            is("value", real().value(v, key, c), there && box.number != null ? box.number : 0);
+            is("madeBy", real().madeBy(v, key, c), there ? box.maker : none);
         }
 
         void checkDifferences(int x, int y) {
             List<int[]> all = model.differences(model.versions.get(x), model.versions.get(y));
-            is("differences", real.differences(x, y), all.size());
+            is("differences", real().differences(x, y), all.size());
             for (int i = 0; i <= all.size(); i++) {
                 for (int part = 0; part < 3; part++) {
-                    is("difference", real.difference(x, y, i, part), i < all.size() ? all.get(i)[part] : NONE);
+                    is("difference", real().difference(x, y, i, part), i < all.size() ? all.get(i)[part] : NONE);
                 }
             }
         }
