@@ -45,6 +45,7 @@ public final class EdgesOfClashesTest {
         numbersNotPlaces();
         mostClashes();
         nothingIsMerged();
+        nothingOfAnEarlierMerge();
         DUE.end();
     }
 
@@ -594,5 +595,21 @@ public final class EdgesOfClashesTest {
         x.makes("cell", 1, 0, 10, 0, 1);
         x.is(14, "merge", 0, 1, 0);
         x.clashesAre(clash(6, 0, 0));
+    }
+
+    /** The last COLUMN and the last ROW clash in one merge, and are gone in both in the next one. */
+    private static void nothingOfAnEarlierMerge() {
+        Calls x = Parted.calls(DUE, "CLASHES are those of this merge alone", steps(step("drop", 1)),
+            steps(step("cell", 12, 1, 5)));
+        x.makes("drop", 2, 0, 1);
+        x.makes("drop", 3, 0, 1);
+        x.clashes(0, 1, clash(1, NONE, 1));
+        x.columnsAre(x.makes("merge", 2, 3, 0), 0);
+        Calls y = Parted.calls(DUE, "CLASHES are those of this merge alone, of ROWS", steps(step("gone", 12)),
+            steps(step("move", 12, 60)));
+        y.makes("gone", 2, 0, 12);
+        y.makes("gone", 3, 0, 12);
+        y.clashes(0, 1, clash(4, 2, NONE));
+        y.rowsAre(y.makes("merge", 2, 3, 0), 0, 1);
     }
 }
